@@ -22,8 +22,8 @@ public final class HandTown {
     private static final int MOST_BODIES = 30;
     private static final int DAY = 1440;
     private static final int LAST_MINUTE = 9999;
-    private static final int LONGEST_WALK = 720;
-    private static final int LONGEST_WATCH = 60;
+    private static final int MOST_MINUTES = 720;
+    private static final int FEW_MINUTES = 60;
     private static final int ODDS_MINUTES = 60;
 
     private static final int LEAPS = 0;
@@ -209,7 +209,7 @@ public final class HandTown {
     // ---- minutes
 
     public int minutes(int n) {
-        if (!within(n, 1, LONGEST_WALK)) {
+        if (!within(n, 1, MOST_MINUTES)) {
             return error(BEYOND);
         }
         if (town.minute + n > LAST_MINUTE) {
@@ -284,7 +284,7 @@ public final class HandTown {
     }
 
     public int rooms(int person, int n) {
-        if (!town.hasPerson(person) || !within(n, 0, LONGEST_WALK)) {
+        if (!town.hasPerson(person) || !within(n, 0, MOST_MINUTES)) {
             return error(BEYOND);
         }
         return walk.roomsBehind(person, n);
@@ -292,7 +292,7 @@ public final class HandTown {
 
     public int watch(int person, int home, int n, int what) {
         if (!town.hasPerson(person) || !town.hasHome(home)
-                || !within(n, 1, LONGEST_WATCH) || !within(what, 0, 1)) {
+                || !within(n, 1, FEW_MINUTES) || !within(what, 0, 1)) {
             return error(BEYOND);
         }
         if (town.room[person] == home) {
@@ -306,7 +306,7 @@ public final class HandTown {
     }
 
     public int best(int person, int n, int what) {
-        if (!town.hasPerson(person) || !within(n, 0, 60) || !within(what, 0, 1)) {
+        if (!town.hasPerson(person) || !within(n, 0, FEW_MINUTES) || !within(what, 0, 1)) {
             return error(BEYOND);
         }
         int home = town.worthiest(walk.roomsBehind(person, n), town.minute + n);
@@ -800,7 +800,7 @@ public final class HandTown {
                     stack[top] = word >= 0 ? word : word == FIRST_NAME ? a : word == LAST_NAME ? c : b;
                     top++;
                 } else if (word == -'!' && top > 0) {
-                    stack[top - 1] = truth(stack[top - 1] == 0);
+                    stack[top - 1] = stack[top - 1] == 0 ? 1 : 0;
                 } else if (top > 1) {
                     top--;
                     stack[top - 1] = join(-word, stack[top - 1], stack[top]);
@@ -811,11 +811,11 @@ public final class HandTown {
 
         private static int join(int sign, int a, int b) {
             switch (sign) {
-                case '|': return truth(a != 0 || b != 0);
-                case '&': return truth(a != 0 && b != 0);
-                case '<': return truth(a < b);
-                case '=': return truth(a == b);
-                case '>': return truth(a > b);
+                case '|': return a != 0 || b != 0 ? 1 : 0;
+                case '&': return a != 0 && b != 0 ? 1 : 0;
+                case '<': return a < b ? 1 : 0;
+                case '=': return a == b ? 1 : 0;
+                case '>': return a > b ? 1 : 0;
                 case '+': return a + b;
                 case '-': return a - b;
                 case '*': return a * b;
@@ -823,10 +823,6 @@ public final class HandTown {
                 case '%': return b == 0 ? 0 : a % b;
                 default: return 0;
             }
-        }
-
-        private static int truth(boolean so) {
-            return so ? 1 : 0;
         }
     }
 
@@ -932,7 +928,7 @@ public final class HandTown {
         }
 
         private static boolean isDigit(int sign) {
-            return within(sign, '0', '9');
+            return sign >= '0' && sign <= '9';
         }
 
         private static int rankOf(int sign) {
@@ -963,7 +959,7 @@ public final class HandTown {
         /** The houses that are no more unlike each house than one's spans. */
         final int[] alike = new int[MOST_HOMES];
         /** A watch's houses to which one gets from each house, minute by minute. */
-        final int[] ways = new int[LONGEST_WATCH * MOST_HOMES];
+        final int[] ways = new int[FEW_MINUTES * MOST_HOMES];
 
         Walk(Town town) {
             this.town = town;
@@ -988,7 +984,7 @@ public final class HandTown {
             if (!isIn(spread(set), home)) {
                 return -1;
             }
-            for (int i = 0; i <= LONGEST_WALK; i++) {
+            for (int i = 0; i <= MOST_MINUTES; i++) {
                 if (isIn(set, home)) {
                     return i;
                 }

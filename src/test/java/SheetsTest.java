@@ -53,6 +53,7 @@ public final class SheetsTest {
             due("put(0, 2, 9)", x.put(0, 2, 9), Dues.BEYOND);
             shows(x, 0, 0, 9);
         }
+        due("put(0, 0, 8)", x.put(0, 0, 8), 1);
         due("sheet(0, 32, 3): all 0 anew", x.sheet(0, 32, 3), 1);
         shows(x, 0, 0, 0, 0);
         due("sheet(3, 8, 0)", x.sheet(3, 8, 0), 1);
@@ -65,6 +66,10 @@ public final class SheetsTest {
         due("sheet(3, 0, 99): n doesn't matter", x.sheet(3, 0, 99), 1);
         due("sheet(3, 0, MIN): n doesn't matter", x.sheet(3, 0, Integer.MIN_VALUE), 1);
         due("sheet 0 stays", x.judge(0), 0);
+        fill(x, 2, 8, 5, 6, 7);
+        due("sheet(2, 0, 0)", x.sheet(2, 0, 0), 1);
+        due("sheet(2, 8, 3): all 0 behind having been missing", x.sheet(2, 8, 3), 1);
+        shows(x, 2, 0, 0, 0);
     }
 
     private static void sheetWrong() {

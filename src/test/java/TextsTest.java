@@ -141,6 +141,9 @@ public final class TextsTest {
         due("law(1, 9, 0, 0) with one", x.law(1, 9, 0, 0), 18);
         due("untell(1)", x.untell(1), 1);
         due("law(1, 9, 4, 0) without", x.law(1, 9, 4, 0), 86);
+        Dues.read(x, 1, "5");
+        due("untell(1) of a short text", x.untell(1), 1);
+        due("untell(1) again", x.untell(1), 0);
         due("untell(2)", x.untell(2), Dues.BEYOND);
         for (int wild : Dues.WILD) {
             due("untell(" + wild + ")", x.untell(wild), Dues.BEYOND);

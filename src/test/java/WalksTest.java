@@ -7,6 +7,7 @@ public final class WalksTest {
         soonestAtTheEnd();
         rooms();
         roomsAtTheEnd();
+        overTheHour();
         wrongCalls();
         watch();
         watchLeast();
@@ -106,6 +107,29 @@ public final class WalksTest {
         due("a leap at 719 by 719", leapAt(719).rooms(0, 719), 1);
         due("a leap at 719 by 720", leapAt(719).rooms(0, 720), 3);
         due("a leap at 720 by 720", leapAt(720).rooms(0, 720), 1);
+    }
+
+    /** Marks 58 and 2 are 4 apart: over the hour. */
+    private static void overTheHour() {
+        HandTown x = new HandTown();
+        x.hand(60, 58);
+        x.hand(60, 2);
+        x.home(0, 0);
+        x.home(1, 0);
+        x.person(9, 0);
+        due("rooms(0, 9) of leaps 3", x.rooms(0, 9), 1);
+        due("soonest(0, 1) of leaps 3", x.soonest(0, 1), Dues.NONE);
+        due("watch(0, 1, 9, 0) of leaps 3", x.watch(0, 1, 9, 0), 0);
+        fraction(x, "leaps 3", 1, 0, 1);
+        x.become(0, 19);
+        due("rooms(0, 9) of leaps 4", x.rooms(0, 9), 3);
+        due("soonest(0, 1) of leaps 4", x.soonest(0, 1), 1);
+        due("watch(0, 1, 9, 0) of leaps 4", x.watch(0, 1, 9, 0), Dues.NONE);
+        fraction(x, "leaps 4", 1, 1, 1);
+        x.person(9, 1);
+        due("rooms(1, 9) of leaps 3, from the other side", x.rooms(1, 9), 2);
+        x.become(1, 19);
+        due("rooms(1, 9) of leaps 4, from the other side", x.rooms(1, 9), 3);
     }
 
     private static void wrongCalls() {
@@ -281,6 +305,10 @@ public final class WalksTest {
         fraction(y, "48 minutes", 1, 4, 5);
         Dues.read(y, 0, "30*(t%60<45)");
         fraction(y, "45 minutes", 1, 3, 4);
+        Dues.read(y, 0, "30*(t%60<22)");
+        fraction(y, "22 minutes", 1, 11, 30);
+        Dues.read(y, 0, "30*(t%60<30)");
+        fraction(y, "30 minutes", 1, 1, 2);
         Dues.read(y, 0, "30");
         fraction(y, "always", 1, 1, 1);
         Dues.read(y, 0, "29");
