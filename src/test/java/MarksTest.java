@@ -90,11 +90,9 @@ public final class MarksTest {
         x.minutes(1);
         due("meet(0, 1) behind 1", x.meet(0, 1), 1440);
         pass(x, 9998);
-        int want = 0;
-        while (x.markAt(0, want) != x.markAt(1, want)) {
-            want++;
-        }
-        due("meet(0, 1) at 9999", x.meet(0, 1), want <= 1440 ? want : Dues.NONE);
+        due("meet(0, 1) at 9999", x.meet(0, 1), 756);
+        due("MARK of 0 at 10755: 11829 leaves 300 by 549", x.markAt(0, 756), 32);
+        due("MARK of 1 at 10755: 12099 leaves 227 by 424", x.markAt(1, 756), 32);
     }
 
     private static void council() {

@@ -360,7 +360,7 @@ final class PeopleEdges {
     }
 
     private void leapsJustEnough() {
-        e.term("APART no more than one's LEAPS");
+        e.term("if their HANDS are APART no more than one's LEAPS");
         e.all("a townsman of 9, 3 APART", 0, Towns.pair(3, 0, 0, 9).jump(0, 1), Towns.pair(57, 0, 0, 9).jump(0, 1));
         e.all("a townsman of 9, 4 APART", Dues.STATE, Towns.pair(4, 0, 0, 9).jump(0, 1), Towns.pair(56, 0, 0, 9).jump(0, 1));
         e.all("a thief of 9, 13 APART", 0, Towns.pair(13, 0, 0, 49).jump(0, 1), Towns.pair(47, 0, 0, 49).jump(0, 1));

@@ -369,6 +369,9 @@ final class TextEdges {
         gives("!r", MIN, 0, 0, 0);
         gives("!!r", 5, 0, 0, 1);
         gives("!r+k", 0, 5, 0, 6);
+        gives("!r*k", 0, 5, 0, 5);
+        gives("!r/k", 0, 5, 0, 0);
+        gives("!(r*k)", 0, 5, 0, 1);
         gives("!r=k", 0, 1, 0, 1);
     }
 

@@ -14,6 +14,8 @@ final class WalkEdges {
         roomsBeyond();
         justWhereOneIs();
         everyMinute();
+        nearEnough();
+        spansOfNow();
         watch();
         watchBeyond();
         watchState();
@@ -23,6 +25,7 @@ final class WalkEdges {
         leastSet();
         best();
         bestBeyond();
+        worthBehind();
         leastOfSeveral();
         odds();
         oddsBeyond();
@@ -54,6 +57,10 @@ final class WalkEdges {
         HandTown eight = row(0, 1, 2, 3, 4, 5, 6, 7);
         for (int home = 0; home < 8; home++) {
             e.due("along a row", eight.soonest(0, home), home);
+        }
+        eight.person(9, 7);
+        for (int home = 0; home < 8; home++) {
+            e.due("back along a row", eight.soonest(1, home), 7 - home);
         }
     }
 
@@ -121,6 +128,52 @@ final class WalkEdges {
         e.due("a MINUTE too early", x.rooms(0, 9), 7);
         e.due("one who is there already", Towns.leapAt(3).rooms(0, 3), 1);
         e.due("one who stayed till then", Towns.leapAt(3).rooms(0, 4), 3);
+    }
+
+    private void nearEnough() {
+        e.term("APART no more than one's LEAPS");
+        int[] aparts = {0, 3, 4, 30, 56, 57};
+        boolean[] near = {true, true, false, false, false, true};
+        for (int i = 0; i < aparts.length; i++) {
+            // a townsman of 9 LEAPS 3, to the HAND ahead of his and to the one behind it
+            HandTown x = Towns.pair(aparts[i], 0, 0, 9);
+            x.person(9, 1);
+            String of = aparts[i] + " APART";
+            e.all(of + ", ROOMS", near[i] ? 3 : 1, x.rooms(0, 1), x.rooms(0, 9), x.personIs(0, 5));
+            e.all(of + ", ROOMS from HAND 1", near[i] ? 3 : 2, x.rooms(1, 1), x.rooms(1, 9), x.personIs(1, 5));
+            e.all(of + ", SOONEST", near[i] ? 1 : Dues.NONE, x.soonest(0, 1), x.soonest(1, 0));
+            e.all(of + ", WATCH", near[i] ? Dues.NONE : 0, x.watch(0, 1, 60, 0), x.watch(1, 0, 60, 0));
+            e.all(of + ", ODDS", near[i] ? 1 : 0, x.odds(0, 1, 0), x.odds(1, 0, 0));
+        }
+        HandTown four = Towns.homes(Towns.hands(60, 0, 60, 58, 60, 2, 60, 5), 0, 0, 1, 0, 2, 0, 3, 0);
+        for (int home = 0; home < 4; home++) {
+            four.person(9, home);
+        }
+        int[] rooms = {7, 3, 13, 12};
+        for (int person = 0; person < 4; person++) {
+            e.due("of four HANDS, from HAND " + person, four.rooms(person, 1), rooms[person]);
+            e.due("of four HANDS, by 3", four.rooms(person, 3), 15);
+        }
+    }
+
+    private void spansOfNow() {
+        e.term("FAR no more unlike than one's SPANS");
+        HandTown x = row(0, 1, 2, 9);
+        x.become(0, 60);
+        e.due("a winder", x.rooms(0, 1), 15);
+        e.due("SOONEST", x.soonest(0, 3), 1);
+        x.become(0, 9);
+        e.due("a townsman", x.rooms(0, 1), 3);
+        e.due("by 9", x.rooms(0, 9), 7);
+        e.due("SOONEST", x.soonest(0, 3), Dues.NONE);
+        e.due("WATCH", x.watch(0, 3, 60, 0), 0);
+        x.become(0, 29);
+        e.due("a widow", x.rooms(0, 9), 1);
+        x.become(0, 57);
+        e.due("a vicar of 7", x.rooms(0, 1), 7);
+        e.due("by way of FAR 2", x.rooms(0, 2), 15);
+        x.become(0, 56);
+        e.due("a vicar of 6", x.rooms(0, 9), 7);
     }
 
     private void watch() {
@@ -237,6 +290,18 @@ final class WalkEdges {
         e.refuses(Dues.BEYOND, "n", v -> x.best(0, v, 0), -1, 61);
         e.refuses(Dues.BEYOND, "what", v -> x.best(0, 0, v), -1, 2);
         e.due("without anybody", new HandTown().best(0, 0, 0), Dues.BEYOND);
+    }
+
+    private void worthBehind() {
+        e.term("WORTH most behind n MINUTES");
+        HandTown x = Towns.homes(Towns.hands(60, 0, 60, 50), 0, 0, 1, 0);
+        x.person(60, 0);
+        e.due("MARKS 9 and 59", x.best(0, 9, 0), 0);
+        e.due("0 less 9", x.best(0, 9, 1), -9);
+        e.due("MARKS 10 and 0", x.best(0, 10, 0), 1);
+        e.due("0 less 0", x.best(0, 10, 1), 0);
+        e.due("MARKS 59 and 49", x.best(0, 59, 1), -49);
+        e.due("MARKS 0 and 50", x.best(0, 60, 0), 0);
     }
 
     private void leastOfSeveral() {
