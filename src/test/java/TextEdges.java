@@ -123,6 +123,13 @@ final class TextEdges {
         e.due("the other USE keeps its own", x.law(1, 7, 0, 0), 5);
         e.due("60 bytes", Dues.read(x, 1, "1" + "+1".repeat(28) + "+99"), 1);
         e.due("60 bytes give", x.law(1, 0, 0, 0), 128);
+        e.due("60 bytes, each of which counts", Dues.read(x, 1, "!r" + "+1".repeat(29)), 1);
+        e.due("they give", x.law(1, 0, 0, 0), 30);
+        e.due("2 bytes", Dues.read(x, 1, "!r"), 1);
+        e.due("they give", x.law(1, 0, 0, 0), 1);
+        Dues.read(x, 1, "r*!k");
+        e.due("2 bytes in place of a sign", Dues.read(x, 1, "!r"), 1);
+        e.due("they give", x.law(1, 0, 0, 0), 1);
     }
 
     private void textBeyond() {
